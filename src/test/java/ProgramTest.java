@@ -83,6 +83,22 @@ public final class ProgramTest {
         Check.teach(sale, 0, "bid 9;");
         check.same("each has one's own", sale.limit(1, 0), 8);
         check.same("each has one's own", sale.limit(0, 0), 9);
+        teachingAgain(sale);
+    }
+
+    /** Nothing of an earlier program or of its error is left. */
+    private static void teachingAgain(WoolSale sale) {
+        check.same("an error of a name", Check.teach(sale, 0, "let need=1;bid nix;"), 2);
+        check.same("its place", sale.errorAt(), 4);
+        check.same("none", Check.teach(sale, 0, "pass;"), 0);
+        check.same("errorAt without one", sale.errorAt(), -1);
+        check.same("no limit", sale.limit(0, 0), -1);
+        for (int bid = 1; bid <= 3; bid++) {
+            check.same("again", Check.teach(sale, 0, "let a=" + bid + ";bid a;"), 0);
+            check.same("limit", sale.limit(0, 0), bid);
+            check.same("parts", sale.buyer(0, 8), 2);
+        }
+        check.same("names are forgotten", Check.teach(sale, 0, "bid a;"), 3);
     }
 
     private static void error(String text, int error, int place) {
@@ -116,6 +132,9 @@ public final class ProgramTest {
         error("when 1<2 let a=1;", 1, 9);
         error("when 1 bid 1;", 1, 7);
         error("when (1<2) bid 1;", 1, 7);
+        error("when 1 2 pass;", 1, 7);
+        error("bid min;", 1, 7);
+        error("bid max,1;", 1, 7);
         error("when [1] bid 1;", 1, 7);
         error("when 1<2<3 bid 1;", 1, 8);
         error("when 1=<2 bid 1;", 1, 7);
@@ -167,6 +186,10 @@ public final class ProgramTest {
         error("bid -" + "(".repeat(8) + "1" + ")".repeat(8) + ";", 1, 12);
         right("bid " + "min(1,".repeat(8) + "1" + ")".repeat(8) + ";");
         error("bid " + "min(1,".repeat(8) + "max(1,1)" + ")".repeat(8) + ";", 1, 55);
+        right("bid " + "min(".repeat(8) + "1" + ",1)".repeat(8) + ";");
+        error("bid " + "min(".repeat(9) + "1" + ",1)".repeat(9) + ";", 1, 39);
+        right("let a=" + "(".repeat(8) + "1" + ")".repeat(8) + ";");
+        error("let a=" + "(".repeat(9) + "1" + ")".repeat(9) + ";", 1, 14);
         right("when " + "[".repeat(8) + "1<2" + "]".repeat(8) + "pass;");
         error("when " + "[".repeat(9) + "1<2" + "]".repeat(9) + "pass;", 1, 13);
         right("when " + "not ".repeat(8) + "1<2 pass;");
@@ -194,6 +217,7 @@ public final class ProgramTest {
     private static void wrongNames() {
         error("let clean=1;", 2, 4);
         error("let turn=1;", 2, 4);
+        error("let micron=1;", 2, 4);
         error("let a=1;let a=2;", 2, 12);
         error("bid b;", 3, 4);
         error("let a=a;", 3, 6);
@@ -205,6 +229,9 @@ public final class ProgramTest {
         error("bid 1+(2*nix);bid", 1, 17);
         error("let micron=1;bid 1;;", 1, 19);
         right("let a=1;let b=a;bid a+b;");
+        right("let a=1;let aa=2;let az=3;let a0=4;let a9=5;let b=6;let za=7;let z9=8;");
+        error("let a9=1;let a8=2;bid az;", 3, 22);
+        error("let abcdefghi0=1;let abcdefghij=2;bid abcdefghik;", 3, 38);
         right("let a1=1;let a=2;let a12=3;let mic=4;let microns=5;");
         String eight = "let a=1;let b=1;let c=1;let d=1;let e=1;let f=1;let g=1;let h=1;";
         right(eight + "bid a+h;");
@@ -293,7 +320,13 @@ public final class ProgramTest {
         holds("1+1=4-2", true);
         holds("not 1<2", false);
         holds("not not 1<2", true);
+        holds("1<=2", true);
+        holds("3>=2", true);
         holds("1<2 and 2<1", false);
+        holds("2<1 and 1<2", false);
+        holds("1<2 and 2>1 and 1<=2 and 2>=1 and 1=1 and not 2<1", true);
+        holds("2<1 or 2<1", false);
+        holds("2<1 or 1<2", true);
         holds("1<2 or 2<1", true);
         holds("1<2 or 1<2 and 2<1", true);
         holds("2<1 and 1<2 or 1<2", true);

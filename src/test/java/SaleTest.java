@@ -67,6 +67,11 @@ public final class SaleTest {
         check.same("no ring", sale.join(2, -1), 0);
         check.same("ring of buyer 2", sale.buyer(2, 4), -1);
         check.same("members left", sale.ring(2, 0), 0);
+        WoolSale all = Check.saleOf(1, 1, 2, 3, 4, 5, 6);
+        for (int b = 0; b < 6; b++) {
+            check.same("join of all", all.join(b, 0), b + 1);
+        }
+        check.same("all six", all.ring(0, 1), 63);
         check.same("none leaves none", sale.join(1, -1), 0);
         check.index("buyer -1", () -> sale.join(-1, 0));
         check.index("buyer 3", () -> sale.join(3, 0));
@@ -101,6 +106,8 @@ public final class SaleTest {
         outcome(Check.saleOf(1, 9999, 9999), 0, 0, 1, 9999, 1, 2);
         outcome(Check.saleOf(1, -1, 70, -1, 80), 0, 10, 3, 73, 3, 2);
         outcome(Check.saleOf(1, 70), 0, 10, 3, 10, 0, 1);
+        outcome(Check.saleOf(1, -1, -1, -1, -1, -1, 70), 0, 10, 3, 10, 5, 1);
+        outcome(Check.saleOf(1, 70, -1, -1, -1, -1, 80), 0, 10, 3, 73, 5, 2);
     }
 
     private static void falling() {
@@ -310,6 +317,7 @@ public final class SaleTest {
         check.same("session", sale.session(2, 40, 1), 3);
         check.same("lots", Check.paper(sale), "0: 0 >1@50\n1: 1 >1@50\n2: 2 >0@100\n3: 3 >1@50\n");
         check.same("nothing is left", sale.session(2, 0, 1), 0);
+        check.same("sold at 0", Check.saleOf(3, 0).session(2, 0, 1), 3);
         WoolSale other = Check.saleOf(3, 100, 50);
         Check.teach(other, 0, "when bought<60 bid 100;pass;");
         check.same("in ascending order", other.session(2, 60, 1), 1);

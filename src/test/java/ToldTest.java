@@ -138,6 +138,9 @@ public final class ToldTest {
         sale.sell(0, 2, 0, 1);
         Check.teach(sale, 0, "bid 0;");
         sale.sell(1, 2, 0, 1);
+        Check.teach(sale, 0, "bid 1000;");
+        sale.sell(29, 2, 0, 1);
+        check.same("price 1000", Check.paper(sale).endsWith("\n29: 29 >0@1000\n") ? 1 : 0, 1);
         check.same("prices 100 and 0", Check.paper(sale).substring(0, 21), "0: 0 >0@100\n1: 1 >0@0");
     }
 

@@ -128,6 +128,17 @@ public final class WoolTest {
         check.same("pool(0, 0, 2)", sale.pool(0, 0, 2), 5);
         check.same("lots of (0, 0, 2)", Check.paper(sale), "0: 2 5\n1: 1\n2: 3\n3: 0\n4: 4\n");
         check.same("store", sale.count(2), 0);
+        poolingOfTaken();
+    }
+
+    private static void poolingOfTaken() {
+        WoolSale sale = new WoolSale();
+        sale.addGrower();
+        sale.bring(0, 18, 80, 60, 100);
+        sale.bring(0, 18, 95, 60, 100);
+        sale.bring(0, 19, 88, 60, 100);
+        check.same("the last one would fit both", sale.pool(1, 10, 12), 2);
+        check.same("it joins the first one", Check.paper(sale), "0: 0 2\n1: 1\n");
     }
 
     private static void poolingAgain() {
