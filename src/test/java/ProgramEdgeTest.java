@@ -19,6 +19,7 @@ public final class ProgramEdgeTest {
         longestTokens();
         endOfTheTape();
         keywordsAndNames();
+        allNamesDiffer();
         depthOfEach();
         depthGoesBack();
         tokens();
@@ -297,6 +298,19 @@ public final class ProgramEdgeTest {
             String shorter = name.substring(0, name.length() - 1);
             error("bid " + shorter + ";", 3, 4);
             right("let " + shorter + "=1;");
+        }
+    }
+
+    /** Each name of two signs against all others: none is taken for another one. */
+    private static void allNamesDiffer() {
+        String signs = "abcdefghijklmnopqrstuvwxyz0123456789";
+        for (String told : new String[] {"ca", "d0", "a9", "zz"}) {
+            for (int i = 0; i < 26 * 36; i++) {
+                String name = "" + signs.charAt(i / 36) + signs.charAt(i % 36);
+                boolean keyword = name.equals("or");
+                boolean same = name.equals(told);
+                error("let " + told + "=1;bid " + name + ";", keyword ? 1 : same ? 0 : 3, same ? -1 : 13);
+            }
         }
     }
 

@@ -28,6 +28,7 @@ public final class SaleEdgeTest {
         savingsOfARichRing();
         grudgesStayAt0();
         sharesAreUsed();
+        sharesAddUp();
         sellingAgain();
         sessions();
         would();
@@ -488,6 +489,24 @@ public final class SaleEdgeTest {
         check.same("one without a limit is a member, too", sale.sell(1, 2, 15, 1), 15);
         check.same("purse", sale.buyer(1, 0), 0);
         check.same("lots of the ring", sale.ring(0, 2), 2);
+    }
+
+    private static void sharesAddUp() {
+        WoolSale sale = Check.saleOf(3, 70, 60, 50);
+        sale.join(0, 1);
+        sale.join(1, 1);
+        for (int lot = 0; lot < 3; lot++) {
+            // 10 * 60 is saved each time, of which the other one gets half
+            check.same("sell", sale.sell(lot, 3, 50, 1), 50);
+            check.same("got by 1", sale.buyer(1, 6), 300 * (lot + 1));
+            check.same("purse of 1", sale.buyer(1, 0), 10000000 + 300 * (lot + 1));
+            check.same("purse of 0", sale.buyer(0, 0), 10000000 - 3300 * (lot + 1));
+            check.same("paid by 0", sale.buyer(0, 7), 3000 * (lot + 1));
+            check.same("shared", sale.ring(1, 3), 300 * (lot + 1));
+            check.same("lots of the ring", sale.ring(1, 2), lot + 1);
+            check.same("paid in all", sale.count(7), 3000 * (lot + 1));
+            check.same("house", sale.count(8), 150 * (lot + 1));
+        }
     }
 
     private static void sellingAgain() {
