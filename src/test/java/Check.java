@@ -29,7 +29,7 @@ final class Check {
     void same(String call, String got, String due) {
         calls++;
         if (!got.equals(due)) {
-            tell(call + " answered\n" + got + "due is\n" + due);
+            tell(call + " answered\n" + got + "\ndue is\n" + due);
         }
     }
 
